@@ -56,15 +56,14 @@ public final class RandomRunsTest {
     }
 
     private void oneCall(String where) {
-        int kind = random.nextInt(22);
+        int kind = random.nextInt(27);
         if (kind < 9) {
             machineCall(where, kind);
         } else if (kind < 15) {
             sheetCall(where, kind);
-        } else {
+        } else if (kind < 22) {
             wouldBeCall(where, kind);
-        }
-        if (random.nextInt(4) == 0) {
+        } else {
             same(where + "digest()", x::digest, y::digest);
         }
     }

@@ -1,11 +1,6 @@
 /** Promises 8 to 12: what sheets, pins and counts tell, and tearing stamps off. */
 public final class SheetsTest {
-    private static final int[] NO_SHEET = {-1, 1, 19, 20, Integer.MIN_VALUE, Integer.MAX_VALUE};
-    private static final int[] NO_ROW = {-1, 5, Integer.MIN_VALUE, Integer.MAX_VALUE};
-    private static final int[] NO_COLUMN = {-1, 6, Integer.MIN_VALUE, Integer.MAX_VALUE};
-
     public static void main(String[] args) {
-        faults();
         faultsTogether();
         tear();
         worthOfEachKind();
@@ -15,27 +10,6 @@ public final class SheetsTest {
         pin();
         count();
         Check.end();
-    }
-
-    /** One sheet: step 1, nothing broken or off. */
-    private static StampSheets clean() {
-        StampSheets x = new StampSheets();
-        x.roll(400, 1);
-        x.run();
-        return x;
-    }
-
-    private static void faults() {
-        StampSheets x = clean();
-        for (int sheet : NO_SHEET) {
-            Check.noIndex("8 faults(" + sheet + ", 0, 0)", x, () -> x.faults(sheet, 0, 0));
-        }
-        for (int row : NO_ROW) {
-            Check.noIndex("8 faults(0, " + row + ", 0)", x, () -> x.faults(0, row, 0));
-        }
-        for (int column : NO_COLUMN) {
-            Check.noIndex("8 faults(0, 0, " + column + ")", x, () -> x.faults(0, 0, column));
-        }
     }
 
     /** Row 4 is off, has no holes at pin 3, and stands inverted in column 3; step 9 leaves few watermarks. */
@@ -65,21 +39,12 @@ public final class SheetsTest {
     }
 
     private static void tear() {
-        StampSheets x = clean();
+        StampSheets x = Given.sheets(1);
         Check.due("9 tear(0, 4, 5)", x.tear(0, 4, 5), 1);
         Check.noState("9 tear(0, 4, 5) again", x, () -> x.tear(0, 4, 5));
         Check.due("9 only this one is off", x.sheet(0, 0), 29);
         x.run();
         Check.due("9 the same place of the next sheet", x.tear(1, 4, 5), 1);
-        for (int sheet : new int[] {-1, 2, 20, Integer.MIN_VALUE, Integer.MAX_VALUE}) {
-            Check.noIndex("9 tear(" + sheet + ", 4, 5)", x, () -> x.tear(sheet, 4, 5));
-        }
-        for (int row : NO_ROW) {
-            Check.noIndex("9 tear(0, " + row + ", 5)", x, () -> x.tear(0, row, 5));
-        }
-        for (int column : NO_COLUMN) {
-            Check.noIndex("9 tear(0, 4, " + column + ")", x, () -> x.tear(0, 4, column));
-        }
     }
 
     private static void worthOfEachKind() {
@@ -115,14 +80,6 @@ public final class SheetsTest {
         for (int what = 0; what < 6; what++) {
             Check.due("10 torn: sheet(0, " + what + ")", x.sheet(0, what), behind[what]);
         }
-        for (int sheet : NO_SHEET) {
-            Check.noIndex("10 sheet(" + sheet + ", 0)", x, () -> x.sheet(sheet, 0));
-        }
-        for (int what : new int[] {-1, 6, Integer.MIN_VALUE, Integer.MAX_VALUE}) {
-            Check.noIndex("10 sheet(0, " + what + ")", x, () -> x.sheet(0, what));
-        }
-        StampSheets none = new StampSheets();
-        Check.noIndex("10 sheet(0, 0) without sheets", none, () -> none.sheet(0, 0));
     }
 
     private static void invertedPairs() {
@@ -142,7 +99,7 @@ public final class SheetsTest {
     }
 
     private static void greatestBlock() {
-        StampSheets x = clean();
+        StampSheets x = Given.sheets(1);
         Check.due("10 block of the whole sheet", x.sheet(0, 5), 30);
         x.tear(0, 0, 0);
         Check.due("10 block without a corner: 5 columns", x.sheet(0, 5), 25);
@@ -191,12 +148,6 @@ public final class SheetsTest {
         x.run();
         Check.due("11 whole with a wear like its strength", x.pin(5, 2), 1);
         Check.due("11 it still strikes the row in which it breaks", x.pin(5, 3), 1);
-        for (int wrong : new int[] {-1, 7, Integer.MIN_VALUE, Integer.MAX_VALUE}) {
-            Check.noIndex("11 pin(" + wrong + ", 0)", x, () -> x.pin(wrong, 0));
-        }
-        for (int wrong : new int[] {-1, 4, Integer.MIN_VALUE, Integer.MAX_VALUE}) {
-            Check.noIndex("11 pin(0, " + wrong + ")", x, () -> x.pin(0, wrong));
-        }
     }
 
     private static void count() {
@@ -218,8 +169,5 @@ public final class SheetsTest {
         }
         x.tear(0, 0, 3);
         Check.due("12 count(9) without a torn one", x.count(9), 117);
-        for (int wrong : new int[] {-1, 10, Integer.MIN_VALUE, Integer.MAX_VALUE}) {
-            Check.noIndex("12 count(" + wrong + ")", x, () -> x.count(wrong));
-        }
     }
 }

@@ -1,7 +1,5 @@
 /** Promises 13 to 17: what would be. */
 public final class WhatWouldBeTest {
-    private static final int[] NO_NUMBER = {0, 21, -1, Integer.MIN_VALUE, Integer.MAX_VALUE};
-
     public static void main(String[] args) {
         foresee();
         foreseeIsWhatRuns();
@@ -34,29 +32,10 @@ public final class WhatWouldBeTest {
         Check.due("13 nothing is changed: wear", x.pin(3, 1), 0);
         x.roll(1, 3);
         Check.due("13 less than a sheet of paper", x.foresee(1, 0), 10);
-        for (int sheets : NO_NUMBER) {
-            Check.noArgument("13 foresee(" + sheets + ", 0)", x, () -> x.foresee(sheets, 0));
-            Check.noArgument("13 foresee(" + sheets + ", 9): told first", x, () -> x.foresee(sheets, 9));
-        }
-        for (int what : new int[] {-1, 4, Integer.MIN_VALUE, Integer.MAX_VALUE}) {
-            Check.noIndex("13 foresee(1, " + what + ")", x, () -> x.foresee(1, what));
-        }
-    }
-
-    private static StampSheets busy() {
-        StampSheets x = new StampSheets();
-        x.roll(400, 2);
-        x.turn(0, 4);
-        x.turn(3, 3);
-        x.fit(2, 17);
-        x.fit(4, 23);
-        x.setFeed(21, -1);
-        x.run();
-        return x;
     }
 
     private static void foreseeIsWhatRuns() {
-        StampSheets x = busy();
+        StampSheets x = Given.busy();
         long before = x.digest();
         int[] seen = {x.foresee(6, 0), x.foresee(6, 1), x.foresee(6, 2), x.foresee(6, 3)};
         Check.due("13 nothing is changed", x.digest(), before);
@@ -103,13 +82,10 @@ public final class WhatWouldBeTest {
             }
         }
         Check.due("14 all alike bad: the least", x.advise(20), 10);
-        StampSheets y = busy();
+        StampSheets y = Given.busy();
         long before = y.digest();
         y.advise(20);
         Check.due("14 nothing at all is changed", y.digest(), before);
-        for (int sheets : NO_NUMBER) {
-            Check.noArgument("14 advise(" + sheets + ")", y, () -> y.advise(sheets));
-        }
     }
 
     private static void like() {
@@ -146,9 +122,6 @@ public final class WhatWouldBeTest {
         x.tear(1, 0, 2);
         Check.due("15 a torn one does not count: 16", x.like(16), 15);
         Check.due("15 a torn one does not count: 4", x.like(4), 4);
-        for (int mask : new int[] {-1, 32, Integer.MIN_VALUE, Integer.MAX_VALUE}) {
-            Check.noArgument("15 like(" + mask + ")", x, () -> x.like(mask));
-        }
     }
 
     private static void share() {
